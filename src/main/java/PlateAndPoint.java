@@ -797,7 +797,7 @@ public final class PlateAndPoint {
     // z is never 0 or less, so that the remainder is from 0 to many - 1.
     private int nextBelow(int many) {
         z = (int) (z * 48271L % 2147483647L);
-        return z % many;
+        return many > 0 ? z % many : 0;
     }
 
     // ---- sums

@@ -1,6 +1,6 @@
 import java.util.NoSuchElementException;
 
-/** What the tests share: answers that are due, exceptions that are due, and all that can be seen of an object. */
+/** What the tests share: answers that are due, and exceptions that are due. */
 final class Due {
     static final Class<? extends RuntimeException> INDEX = IndexOutOfBoundsException.class;
     static final Class<? extends RuntimeException> ARGUMENT = IllegalArgumentException.class;
@@ -10,7 +10,6 @@ final class Due {
     static final Class<? extends RuntimeException> ARITHMETIC = ArithmeticException.class;
 
     private static final int[] NO_INDEX_OF_3 = {-1, 3, Integer.MIN_VALUE, Integer.MAX_VALUE};
-    private static final String THINGS = "thfrgdouwn";
 
     private static int passed = 0;
     private static int failed = 0;
@@ -50,9 +49,9 @@ final class Due {
         count(got.equals(want), what + " answered " + got + ", due is " + want);
     }
 
-    /** The call throws just this exception, and all that can be seen of x stays as it was. */
+    /** The call throws just this exception, and the sum stays; {@link Run#refuses} looks at all else that stays. */
     static void refuses(String what, PlateAndPoint x, Class<? extends RuntimeException> want, Call call) {
-        String before = seen(x);
+        long before = x.checksum();
         Class<?> got = null;
         try {
             call.run();
@@ -60,7 +59,7 @@ final class Due {
             got = e.getClass();
         }
         count(got == want, what + " threw " + got + ", due is " + want);
-        count(before.equals(seen(x)), what + " changed something though it threw");
+        is(what + " and the sum", x.checksum(), before);
     }
 
     /** With three men, the call takes none of these numbers for a man. */
@@ -121,62 +120,6 @@ final class Due {
             }
         }
         return 24;
-    }
-
-    private static int men(PlateAndPoint x) {
-        for (int k = 0; k < 3; k++) {
-            try {
-                x.wounds(k);
-            } catch (IndexOutOfBoundsException e) {
-                return k;
-            }
-        }
-        return 3;
-    }
-
-    static String seen(PlateAndPoint x) {
-        StringBuilder text = new StringBuilder();
-        int plates = plates(x);
-        for (int k = 0; k < plates; k++) {
-            text.append(x.state(k)).append(x.isProved(k));
-            for (int n = 0; n < THINGS.length(); n++) {
-                text.append(' ').append(x.of(k, THINGS.charAt(n)));
-            }
-            text.append('\n');
-        }
-        int men = men(x);
-        for (int k = 0; k < men; k++) {
-            seenMan(text, x, k);
-        }
-        return text.append(depthOf(x)).append(' ').append(x.checksum()).toString();
-    }
-
-    private static void seenMan(StringBuilder text, PlateAndPoint x, int man) {
-        text.append(x.wounds(man)).append(' ').append(x.weight(man)).append(' ').append(x.breath(man, 1));
-        for (int k = 0; k < 9; k++) {
-            text.append(' ').append(plateOf(x, man, k));
-        }
-        for (int k = 0; k < 8; k++) {
-            text.append(' ').append(x.angle(man, k)).append(' ').append(x.reach(man, k));
-            text.append(' ').append(x.leather(man, k)).append(' ').append(x.gap(man, k, 150));
-        }
-        text.append('\n');
-    }
-
-    private static int depthOf(PlateAndPoint x) {
-        try {
-            return x.depth();
-        } catch (NoSuchElementException e) {
-            return -1;
-        }
-    }
-
-    private static int plateOf(PlateAndPoint x, int man, int part) {
-        try {
-            return x.plateAt(man, part);
-        } catch (NoSuchElementException e) {
-            return -1;
-        }
     }
 
     static void count(boolean isDue, String otherwise) {

@@ -156,7 +156,8 @@ public final class DuelTests {
             }
             Due.is("43 rounds begun", x.duel(0, 1, kind, second, rounds), begun);
             y.seed((int) z);
-            Due.is("43 all as by the blows", Due.seen(x), Due.seen(y));
+            Due.is("43 all as by the blows", x.checksum(), y.checksum());
+            Due.is("43 the depth of the last one", x.depth(), y.depth());
         }
     }
 

@@ -38,15 +38,21 @@ public final class FaceTests {
         for (Field field : PlateAndPoint.class.getDeclaredFields()) {
             Due.count(Modifier.isPrivate(field.getModifiers()), field + " is not private");
         }
+        privateAreNamedApart(PlateAndPoint.class, names);
         for (Method method : PlateAndPoint.class.getDeclaredMethods()) {
-            if (!Modifier.isPublic(method.getModifiers())) {
-                Due.count(Modifier.isPrivate(method.getModifiers()), method + " is not private");
-                Due.count(!names.contains(method.getName()), method + " bears the name of a public one");
-            }
+            int modifiers = method.getModifiers();
+            Due.count(Modifier.isPublic(modifiers) || Modifier.isPrivate(modifiers), method + " is not private");
         }
         for (Class<?> inside : PlateAndPoint.class.getDeclaredClasses()) {
-            Due.count(Modifier.isStatic(inside.getModifiers()), inside + " is not static");
-            for (Method method : inside.getDeclaredMethods()) {
+            int modifiers = inside.getModifiers();
+            Due.count(!Modifier.isPublic(modifiers) && !Modifier.isProtected(modifiers), inside + " can be seen");
+            privateAreNamedApart(inside, names);
+        }
+    }
+
+    private static void privateAreNamedApart(Class<?> owner, Set<String> names) {
+        for (Method method : owner.getDeclaredMethods()) {
+            if (Modifier.isPrivate(method.getModifiers())) {
                 Due.count(!names.contains(method.getName()), method + " bears the name of a public one");
             }
         }

@@ -3,14 +3,19 @@ import java.lang.reflect.Field;
 
 /**
  * Promise 48, where it answers that an object is not sound. No run of calls gets there, so that these tests reach
- * into the object's private state; they are the only ones that know how it is held.
+ * into the object's private state; they are the only ones that know how it is held. How it is held is free: if it is
+ * held otherwise than they know, they say so and look at nothing.
  */
 public final class SoundTests {
     public static void main(String[] args) throws ReflectiveOperationException {
-        plates();
-        angles();
-        wornTwice();
-        wornWrongly();
+        try {
+            plates();
+            angles();
+            wornTwice();
+            wornWrongly();
+        } catch (NoSuchFieldException e) {
+            System.out.println("the state is held otherwise, there is no field " + e.getMessage());
+        }
         Due.end();
     }
 

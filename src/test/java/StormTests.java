@@ -6,11 +6,12 @@ import java.util.Comparator;
 
 /**
  * Long runs of calls with numbers in range, at its edges and far beyond it: a call throws only what its face names,
- * from a throw of the class itself, it changes nothing then, and the object stays sound.
+ * from a throw of the class itself, and the object stays sound. Beside each object stands another one, which gets only
+ * the calls that do not throw: if one that throws changed something, the answers of both would differ from then on.
  */
 public final class StormTests {
-    private static final int RUNS = 60;
-    private static final int CALLS = 512;
+    private static final int RUNS = 2000;
+    private static final int CALLS = 180;
     private static final String SIGNS = "pehbswolfthfrgdounxq";
 
     private static long drawn = 20261119;
@@ -21,39 +22,56 @@ public final class StormTests {
                 .sorted(Comparator.comparing(Method::getName))
                 .toArray(Method[]::new);
         for (int run = 0; run < RUNS; run++) {
-            PlateAndPoint x = begun(run);
+            PlateAndPoint x = new PlateAndPoint();
+            PlateAndPoint beside = new PlateAndPoint();
+            long from = drawn;
+            begin(x, run);
+            drawn = from;
+            begin(beside, run);
             for (int k = 0; k < CALLS; k++) {
-                call(x, calls[next(calls.length)], run);
+                call(x, beside, calls[next(calls.length)], run);
             }
             Due.is("run " + run + " isSound", x.isSound(), true);
+            Witness witness = Witness.values()[run % Witness.values().length];
+            Due.is("run " + run + ", what " + witness + " see", Seen.by(witness, x).text(),
+                    Seen.by(witness, beside).text());
         }
         Due.end();
     }
 
-    private static PlateAndPoint begun(int run) {
-        PlateAndPoint x = Due.withMen(run % 4);
+    private static void begin(PlateAndPoint x, int run) {
+        for (int k = 0; k < run % 4; k++) {
+            x.addMan();
+        }
         for (int k = 0; k < run % 25; k++) {
             x.makePlate(38 + next(5), next(91), next(21), 5 + next(56), next(2));
         }
-        return x;
     }
 
-    private static void call(PlateAndPoint x, Method method, int run) throws IllegalAccessException {
+    private static void call(PlateAndPoint x, PlateAndPoint beside, Method method, int run)
+            throws IllegalAccessException {
         Object[] given = new Object[method.getParameterCount()];
         for (int k = 0; k < given.length; k++) {
             given[k] = drawnFor(method.getParameterTypes()[k]);
         }
         String told = "run " + run + " " + method.getName() + Arrays.toString(given);
-        String before = Due.seen(x);
+        Object got;
         try {
-            method.invoke(x, given);
+            got = method.invoke(x, given);
         } catch (InvocationTargetException e) {
             Throwable thrown = e.getCause();
             Due.count(Arrays.asList(method.getExceptionTypes()).contains(thrown.getClass()), told + " threw " + thrown);
             String at = thrown.getStackTrace()[0].getClassName();
             Due.count(at.startsWith("PlateAndPoint"), told + " was thrown by the machine: " + thrown);
-            Due.count(before.equals(Due.seen(x)), told + " changed something though it threw");
+            return;
         }
+        Object due = null;
+        try {
+            due = method.invoke(beside, given);
+        } catch (InvocationTargetException e) {
+            Due.count(false, told + " threw beside: " + e.getCause());
+        }
+        Due.count(got.equals(due), told + " answered " + got + ", beside " + due);
     }
 
     private static Object drawnFor(Class<?> kind) {

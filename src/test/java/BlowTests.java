@@ -108,11 +108,10 @@ public final class BlowTests {
         Due.is("34 at 89", wound(x, 'p', 89, 5000), 0);
         Due.is("34 at 88", wound(x, 'p', 88, 5000), 1);
         Due.is("34 at 80", wound(x, 'p', 80, 2000), 3);
-        // the force of 1999 at 30 is 888, the bite of a shot 1332; uncut it would be 888.4 and 1332.6
-        Due.is("34 cut twice", wound(x, 's', 30, 1999), 134);
-        // the force of 11 at 30 is 4, the bite of a bolt 5; uncut 4.9 and 6.4
-        x.setCloth(0, 5, 0);
-        Due.is("34 of 9 and less", wound(x, 'b', 30, 11), 1);
+        // the force of 27 at 45 is 6, the bite of a shot 9; of an uncut force of 6.75 it would be 10
+        Due.is("34 cut twice, a shot", wound(x, 's', 45, 27), 1);
+        // the force of 31 at 45 is 7, the bite of a bolt 9; of an uncut force of 7.75 it would be 10
+        Due.is("34 cut twice, a bolt", wound(x, 'b', 45, 31), 1);
         Due.is("34 an edge of 2 bites not", wound(x, 'e', 0, 2), 0);
         Due.is("34 an edge of 3 bites", wound(x, 'e', 0, 3), 1);
         Due.is("34 a hammer of 4 bites not", wound(x, 'h', 0, 4), 0);

@@ -18,6 +18,8 @@ public final class EdgeBlowTests {
         p34UnlessItCatches();
         p34ForceCut();
         p34BiteCut();
+        p34BiteOfTheForceCut();
+        p34DentsOfTheForceCut();
         p34BiteOfMoreThanItWithstands();
         p34OfAPlateThatWithstandsNothing();
         p34BiteGoesOnLessByThat();
@@ -276,6 +278,39 @@ public final class EdgeBlowTests {
                     .is('w', x -> x.strike(0, 0, kind, 0, 5000))
                     .is(wound, x -> x.wounds(0));
         }
+    }
+
+    /** At 30 degrees the force is 4 times the energy, divided by 9; at 36 it is 36 of 100. */
+    private static void p34BiteOfTheForceCut() {
+        Run.of("34 the bite is that of the force as it is cut").men(1)
+                .with(x -> x.setCloth(0, 0, 1)).with(x -> x.setCloth(0, 1, 2))
+                // an edge of 22.6 would bite 9, of 22 it bites 8
+                .is('-', x -> x.strike(0, 0, 'e', 30, 51)).is('w', x -> x.strike(0, 0, 'e', 30, 52))
+                // a bolt of 13.3 would bite 17, of 13 it bites 16
+                .is('-', x -> x.strike(0, 1, 'b', 30, 30)).is('w', x -> x.strike(0, 1, 'b', 30, 32))
+                // a shot of 11.5 would bite 17, of 11 it bites 16
+                .is('-', x -> x.strike(0, 1, 's', 30, 26)).is('w', x -> x.strike(0, 1, 's', 30, 27))
+                .is(3, x -> x.wounds(0));
+        withPlates("34 and so on a plate")
+                // an edge of 802.6 would bite 321, of 802 it bites 320
+                .with(x -> x.strike(0, 0, 'e', 30, 1806)).is(0, x -> x.of(0, 'o'))
+                .with(x -> x.strike(0, 0, 'e', 30, 1807)).is(1, x -> x.of(0, 'o'))
+                // with a hole it withstands 288; a shot of 192.8 would bite 289, of 192 it bites 288
+                .with(x -> x.strike(0, 0, 's', 30, 434)).is(1, x -> x.of(0, 'o'))
+                .with(x -> x.strike(0, 0, 's', 30, 435)).is(2, x -> x.of(0, 'o'))
+                // a bolt of 246.96 would bite 321, of 246 it bites 319
+                .with(x -> x.strike(0, 1, 'b', 36, 686)).is(0, x -> x.of(1, 'o'))
+                .with(x -> x.strike(0, 1, 'b', 36, 687)).is(1, x -> x.of(1, 'o'));
+    }
+
+    /** At 45 degrees the force is a fourth of the energy. */
+    private static void p34DentsOfTheForceCut() {
+        withPlates("34 the dents are those of the force as it is cut").with(x -> x.setCloth(0, 0, 30))
+                // 322.5 in 321 would be 1, 320 are 0
+                .is('-', x -> x.strike(0, 0, 'p', 45, 129)).is('d', x -> x.strike(0, 0, 'p', 45, 132))
+                // 325 in 321 would be 1, 320 are 0
+                .is('-', x -> x.strike(0, 0, 'h', 45, 65)).is('d', x -> x.strike(0, 0, 'h', 45, 68))
+                .is(2, x -> x.of(0, 'd'));
     }
 
     private static void p34BiteOfMoreThanItWithstands() {

@@ -133,13 +133,25 @@ public final class EdgeMenTests {
     }
 
     private static void p3HalfOfTheSumCut() {
-        int[][] sizes = {{20, 20, 20}, {20, 21, 20}, {21, 20, 20}, {21, 21, 21}, {98, 99, 98}, {99, 99, 99}};
+        // the sizes of both parts, and by how much the joint opens at 57 and at 150 degrees, where an uncut half shows
+        int[][] sizes = {{20, 20, 20, 52}, {20, 21, 20, 52}, {21, 20, 20, 52}, {21, 21, 21, 55}, {98, 99, 98, 257},
+            {99, 98, 98, 257}, {99, 99, 99, 260}};
         for (int[] size : sizes) {
             Run.of("3 the size of a joint is half of the sum of both parts, cut").men(1)
                     .with(x -> x.setPart(0, 3, size[0]))
                     .with(x -> x.setPart(0, 4, size[1]))
-                    .is(size[2], x -> x.gap(0, 3, 57));
+                    .is(size[2], x -> x.gap(0, 3, 57))
+                    .is(size[3], x -> x.gap(0, 3, 150));
         }
+        // at 150 degrees it opens by 155 with a size of 59, and closes by 77; of 59.5 it would be 156, and 78
+        Run.of("3 and so it closes").men(1).plate(59, 0, 0, 20).plate(60, 0, 0, 20)
+                .with(x -> x.setPart(0, 0, 59)).with(x -> x.setPart(0, 1, 60))
+                .with(x -> x.wear(0, 0, 0)).with(x -> x.wear(0, 1, 1))
+                // 18 is what three lames slide
+                .with(x -> x.setLames(0, 0, 3, 'l')).with(x -> x.setRoom(0, 0, 59))
+                .is(false, x -> x.binds(0, 0, 150))
+                .with(x -> x.setRoom(0, 0, 58))
+                .is(true, x -> x.binds(0, 0, 150));
     }
 
     private static void p3NoPlateIsWorn() {
